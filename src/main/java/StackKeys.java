@@ -476,6 +476,7 @@ public final class StackKeys {
         int kind = END;
         int start = 0;
         int value = 0;
+        int lastEnd = NONE;
         boolean ahead = false;
 
         Lexer(Tape tape) {
@@ -484,6 +485,7 @@ public final class StackKeys {
 
         void begin() {
             at = 0;
+            lastEnd = NONE;
             ahead = false;
         }
 
@@ -491,73 +493,49 @@ public final class StackKeys {
             ahead = false;
         }
 
+        boolean isSign(char sign) {
+            return kind == SIGN && value == sign;
+        }
+
         void look() {
             if (ahead) {
                 return;
             }
             ahead = true;
-            while (at < tape.size && (tape.at(at) == 10 || tape.at(at) == 32)) {
+            while (at < tape.size && at < TAPE_LIMIT && (tape.bytes[at] == 10 || tape.bytes[at] == 32)) {
                 at++;
             }
             start = at;
-            value = tape.at(at);
-            if (value == NONE) {
+            if (at >= tape.size || at >= TAPE_LIMIT) {
                 kind = END;
-            } else if (isLetter(value)) {
-                cutWord();
-            } else if (isDigit(value)) {
-                cutNumber();
+                return;
+            }
+            value = tape.bytes[at];
+            if (value >= 'a' && value <= 'z') {
+                cut(WORD, 'a', 'z', LETTERS);
+            } else if (value >= '0' && value <= '9') {
+                cut(NUMBER, '0', '9', DIGITS);
             } else {
                 kind = SIGN;
                 at++;
             }
         }
 
-        private void cutWord() {
-            boolean joined = isDigit(tape.at(start - 1));
-            kind = WORD;
+        /** One too long is bad at the sign too much, whatever may stand there; one without a blank ahead at its first. */
+        private void cut(int what, char low, char high, int most) {
+            kind = start == lastEnd ? BAD : what;
             value = 0;
-            while (at < tape.size && isLetter(tape.at(at))) {
-                if (at - start >= LETTERS) {
-                    spoil(at);
+            while (at < tape.size && at < TAPE_LIMIT && tape.bytes[at] >= low && tape.bytes[at] <= high) {
+                if (at - start >= most) {
+                    kind = BAD;
+                    start = at;
                     return;
                 }
-                value |= (tape.at(at) - BEFORE_A) << (LETTER_BITS * (at - start));
+                int digit = tape.bytes[at] - low;
+                value = what == NUMBER ? value * 10 + digit : value | (digit + 1) << (LETTER_BITS * (at - start));
                 at++;
             }
-            if (joined) {
-                spoil(start);
-            }
-        }
-
-        private void cutNumber() {
-            boolean joined = isLetter(tape.at(start - 1));
-            kind = NUMBER;
-            value = 0;
-            while (at < tape.size && isDigit(tape.at(at))) {
-                if (at - start >= DIGITS) {
-                    spoil(at);
-                    return;
-                }
-                value = value * 10 + tape.at(at) - '0';
-                at++;
-            }
-            if (joined) {
-                spoil(start);
-            }
-        }
-
-        private void spoil(int place) {
-            kind = BAD;
-            start = place;
-        }
-
-        private static boolean isLetter(int sign) {
-            return sign >= 'a' && sign <= 'z';
-        }
-
-        private static boolean isDigit(int sign) {
-            return sign >= '0' && sign <= '9';
+            lastEnd = at;
         }
     }
 
@@ -595,8 +573,48 @@ public final class StackKeys {
                 if (lexer.kind == Lexer.END) {
                     return n;
                 }
-                int word = statementWord(town);
-                if (word == NONE || !readStatement(town, word) || !sign(';')) {
+                boolean read;
+                switch (statementWord(town)) {
+                    case W_PLACE:
+                        read = town.add(PLACES, newName(town));
+                        break;
+                    case W_DOOR:
+                        read = readDoor(town);
+                        break;
+                    case W_BOX:
+                        read = readBox(town);
+                        break;
+                    case W_KEY:
+                        read = readKey(town);
+                        break;
+                    case W_PERSON:
+                        read = readPerson(town);
+                        break;
+                    case W_THING:
+                        read = readThing(town);
+                        break;
+                    case W_WANTS:
+                        read = readWants(town);
+                        break;
+                    case W_MUST:
+                        read = readMust(town);
+                        break;
+                    case W_BAR:
+                        read = readBar(town);
+                        break;
+                    case W_HAS:
+                        read = readHas(town);
+                        break;
+                    case W_SHUT:
+                        read = readShut(town);
+                        break;
+                    case W_LOST:
+                        read = readLost(town);
+                        break;
+                    default:
+                        read = false;
+                }
+                if (!read || !sign(';')) {
                     return NONE;
                 }
             }
@@ -615,37 +633,6 @@ public final class StackKeys {
                 }
             }
             return none(1);
-        }
-
-        private boolean readStatement(Town town, int word) {
-            switch (word) {
-                case W_PLACE:
-                    return town.add(PLACES, newName(town));
-                case W_DOOR:
-                    return readDoor(town);
-                case W_BOX:
-                    return readBox(town);
-                case W_KEY:
-                    return readKey(town);
-                case W_PERSON:
-                    return readPerson(town);
-                case W_THING:
-                    return readThing(town);
-                case W_WANTS:
-                    return readWants(town);
-                case W_MUST:
-                    return readMust(town);
-                case W_BAR:
-                    return readBar(town);
-                case W_HAS:
-                    return readHas(town);
-                case W_SHUT:
-                    return readShut(town);
-                case W_LOST:
-                    return readLost(town);
-                default:
-                    return false;
-            }
         }
 
         private boolean readDoor(Town town) {
@@ -808,26 +795,13 @@ public final class StackKeys {
             if (passesWord(W_ALL)) {
                 read = tests.add(Tests.ALL);
             } else if (passesSign('[')) {
-                read = enter() && readTest(tests) && leave(']');
+                read = enter() && readTest(tests) && sign(']') && leave();
             } else {
-                read = readComparison(tests);
+                read = readSum(tests);
+                int comparison = read ? comparisonSign() : NONE;
+                read = comparison != NONE && readSum(tests) && tests.add(comparison);
             }
             return read && (!turned || tests.add(Tests.NOT));
-        }
-
-        private boolean readComparison(Tests tests) {
-            if (!readSum(tests)) {
-                return false;
-            }
-            int operation = Tests.SAME;
-            if (passesSign('<')) {
-                operation = Tests.LESS;
-            } else if (passesSign('>')) {
-                operation = Tests.MORE;
-            } else if (!sign('=')) {
-                return false;
-            }
-            return readSum(tests) && tests.add(operation);
         }
 
         private boolean readSum(Tests tests) {
@@ -875,7 +849,7 @@ public final class StackKeys {
                 return tests.add(lexer.value);
             }
             if (passesSign('(')) {
-                return enter() && readSum(tests) && leave(')');
+                return enter() && readSum(tests) && sign(')') && leave();
             }
             if (passesWord(W_WHO)) {
                 return tests.add(Tests.WHO);
@@ -899,7 +873,23 @@ public final class StackKeys {
         }
 
         private boolean readPair(Tests tests) {
-            return sign('(') && enter() && readSum(tests) && sign(',') && readSum(tests) && leave(')');
+            return sign('(') && enter() && readSum(tests) && sign(',') && readSum(tests) && sign(')') && leave();
+        }
+
+        private int comparisonSign() {
+            lexer.look();
+            int comparison = NONE;
+            if (lexer.isSign('<')) {
+                comparison = Tests.LESS;
+            } else if (lexer.isSign('>')) {
+                comparison = Tests.MORE;
+            } else if (lexer.isSign('=')) {
+                comparison = Tests.SAME;
+            } else {
+                bad(1);
+            }
+            lexer.pass();
+            return comparison;
         }
 
         private boolean enter() {
@@ -910,9 +900,9 @@ public final class StackKeys {
             return true;
         }
 
-        private boolean leave(char bracket) {
+        private boolean leave() {
             bracketsOpen--;
-            return sign(bracket);
+            return true;
         }
 
         private boolean isNameAhead() {
@@ -977,7 +967,12 @@ public final class StackKeys {
         }
 
         private boolean sign(char sign) {
-            return passesSign(sign) || bad(1);
+            lexer.look();
+            if (!lexer.isSign(sign)) {
+                return bad(1);
+            }
+            lexer.pass();
+            return true;
         }
 
         private boolean passesWord(int word) {
@@ -991,7 +986,7 @@ public final class StackKeys {
 
         private boolean passesSign(char sign) {
             lexer.look();
-            if (lexer.kind != Lexer.SIGN || lexer.value != sign) {
+            if (!lexer.isSign(sign)) {
                 return false;
             }
             lexer.pass();
@@ -1312,11 +1307,11 @@ public final class StackKeys {
 
         /** Doors take at least a minute, so none is only a box's. */
         boolean isBox(int door) {
-            return isThere(DOORS, door) && minutes[door] == 0;
+            return door >= 0 && door < counts[DOORS] && minutes[door] == 0;
         }
 
         boolean isAt(int door, int place) {
-            return isThere(DOORS, door) && (first[door] == place || second[door] == place);
+            return door >= 0 && door < counts[DOORS] && (first[door] == place || second[door] == place);
         }
 
         int otherSide(int door, int place) {
@@ -2025,7 +2020,7 @@ public final class StackKeys {
 
         /** For each set of places come through and the last of them the least minutes, then back to the start. */
         private int walk(int all, int start) {
-            for (int i = 0; i < SETS * MOST_PLACES; i++) {
+            for (int i = 0; i < SETS * MOST_PLACES && i < (all + 1) * MOST_PLACES; i++) {
                 least[i] = FAR;
             }
             int lone = (1 << start) * MOST_PLACES + start;
@@ -2034,7 +2029,7 @@ public final class StackKeys {
             }
             least[lone] = 0;
             int best = FAR;
-            for (int set = 0; set < SETS; set++) {
+            for (int set = 0; set < SETS && set <= all; set++) {
                 for (int last = 0; last < MOST_PLACES; last++) {
                     int minutes = least[set * MOST_PLACES + last];
                     if (minutes >= FAR) {
