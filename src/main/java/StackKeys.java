@@ -1531,6 +1531,7 @@ public final class StackKeys {
         final int[][] shutBy = new int[MOST_KEYS][ROW_LIMIT + 1];
         final int[] unit = new int[MOST_KEYS];
         final int[] left = new int[MOST_KEYS];
+        final int[] doorsAt = new int[MOST_PLACES];
         final int[] barred = new int[MOST_PLACES * CLOSED_COUNTS];
         final int[] wants = new int[WANTS_EACH];
         long[] front = new long[WORDS];
@@ -1545,7 +1546,7 @@ public final class StackKeys {
         int lentActs = NONE;
 
         int placesOf(Town town, int person) {
-            search(town, person, town.keysOf(person), EVERYWHERE, 0);
+            search(town, person, town.keysOf(person), EVERYWHERE, (1 << town.counts[PLACES]) - 1);
             return placesSeen;
         }
 
@@ -1576,6 +1577,7 @@ public final class StackKeys {
             placesSeen = 0;
             prepareWants(town, person);
             prepareKeys(town, keys);
+            prepareDoors(town);
             prepareBars(town, person, Integer.bitCount(keys));
             clearSets();
             markStart(town, town.now.spot[person], keys);
@@ -1624,6 +1626,17 @@ public final class StackKeys {
             }
             hadUnit = product;
             states = Math.min(product << wantCount, MOST_STATES);
+        }
+
+        private void prepareDoors(Town town) {
+            for (int place = 0; place < MOST_PLACES; place++) {
+                doorsAt[place] = 0;
+                for (int door = 0; door < town.counts[DOORS]; door++) {
+                    if (!town.isBox(door) && town.isAt(door, place)) {
+                        doorsAt[place] |= 1 << door;
+                    }
+                }
+            }
         }
 
         /** A bar is asked by place and by how many are shut alone, all else staying: so each is asked but once. */
@@ -1719,15 +1732,18 @@ public final class StackKeys {
                 case TO_HAVE:
                     return had == (1 << wantCount) - 1;
                 default:
-                    return false;
+                    return placesSeen == goal;
             }
         }
 
         private void markGoing(Town town, int state, int place, int had, int shutMask) {
             int row = place * CLOSED_COUNTS + Integer.bitCount(shutMask);
-            int closed = row >= 0 && row < MOST_PLACES * CLOSED_COUNTS ? shutMask | barred[row] : shutMask;
-            for (int door = 0; door < town.counts[DOORS]; door++) {
-                if (((closed >> door) & 1) == 0 && !town.isBox(door) && town.isAt(door, place)) {
+            if (place < 0 || place >= MOST_PLACES || row >= MOST_PLACES * CLOSED_COUNTS) {
+                return;
+            }
+            int doors = doorsAt[place] & ~shutMask & ~barred[row];
+            for (int door = 0; door < MOST_DOORS && doors >> door != 0; door++) {
+                if (((doors >> door) & 1) != 0) {
                     int to = town.otherSide(door, place);
                     int more = hadAt(town, to, shutMask) & ~had;
                     mark(state + to - place + more * hadUnit);
@@ -1748,7 +1764,7 @@ public final class StackKeys {
 
         private int shutNow(Town town) {
             int mask = shutByOthers;
-            for (int key = 0; key < town.counts[KEYS]; key++) {
+            for (int key = 0; key < town.counts[KEYS] && key < MOST_KEYS; key++) {
                 if (unit[key] > 0 && left[key] >= 0 && left[key] <= ROW_LIMIT) {
                     mask |= shutBy[key][left[key]];
                 }
