@@ -195,6 +195,9 @@ public final class PromisesTest {
         faulty("place a^,", 1);
         faulty("place ^7;", 1);
         faulty("place ^at;", 1);
+        faulty("place ^place;", 1);
+        faulty("place a;key k in ^7;", 1);
+        faulty("place a;key k in ^in;", 1);
         faulty("place ^max;", 1);
         faulty("place ^A;", 1);
         faulty("place^\ta;", 1);
@@ -367,6 +370,10 @@ public final class PromisesTest {
         due(x.letter(3, 1, 3), 'n');
         due(x.letter(4, 0, 2), 'p');
         due(x.letter(4, 2, 0), NONE);
+        StackKeys z = town("place zzzzzz;place za;place az;");
+        due(z.letter(0, 0, 0), 'z');
+        due(z.letter(0, 0, 5), 'z');
+        due(z.letter(0, 2, 1), 'z');
         due(x.letter(5, 0, 0), NONE);
         due(x.letter(-1, 0, 0), NONE);
         due(x.letter(0, -1, 0), NONE);
@@ -590,6 +597,12 @@ public final class PromisesTest {
         due(x.lay(0, 0, 2), true);
         due(x.key(0, 0), 22);
         due(x.take(0, 0), true);
+        x.open(0, 0);
+        x.go(0, 0);
+        due(x.lay(0, 0, NONE), true);
+        due(x.key(0, 0), 11);
+        due(x.take(0, 0), true);
+        x.go(0, 0);
         x.shut(0, 0, 2);
         due(x.lay(0, 0, 2), false);
         due(with("lost tin;").lay(0, 0, 2), false);
@@ -713,6 +726,61 @@ public final class PromisesTest {
         StackKeys w = town("place a;place b;place c;door d a b 1;door e a c 1;person p at a;thing t in b;thing u in c;"
                 + "wants p t;wants p u;");
         due(w.errands(0), 3);
+    }
+
+    /** Eight places, ten doors from the first place, four keys with full rows, all with a person at the last place. */
+    private static String fullTown(String more) {
+        StringBuilder text = new StringBuilder();
+        for (char c = 'a'; c < 'i'; c++) {
+            text.append("place p").append(c).append(';');
+        }
+        for (char c = 'a'; c < 'k'; c++) {
+            text.append("door d").append(c).append(" pa p").append((char) ('b' + (c - 'a') % 7)).append(" 5;");
+        }
+        text.append("person x at ph;person y at pb;person z at pc;");
+        for (char k = 'a'; k < 'e'; k++) {
+            text.append("key k").append(k).append(" in pa;has x k").append(k).append(';');
+            for (char c = 'f'; c >= 'a'; c--) {
+                text.append("shut d").append(c).append(" by k").append(k).append(';');
+            }
+        }
+        return text.append(more).toString();
+    }
+
+    private static void fullErrands() {
+        StackKeys x = town(fullTown("thing t in ph;thing u in ph;thing v in pa;wants x t;wants x u;wants y t;wants y v;"));
+        due(x.image(), 36);
+        int[] bytes = new int[35];
+        for (int k = 0; k < 35; k++) {
+            bytes[k] = x.octet(k);
+        }
+        due(x.octet(35), sum(bytes));
+        due(x.octet(36), NONE);
+        due(put(x, bytes), true);
+        due(x.errands(0), 0);
+        due(x.errands(1), 2);
+        due(x.reach(0, 4), 18);
+        due(x.opens(0, 5), 25);
+        StackKeys y = town(fullTown("thing t in pg;thing u in pe;wants x t;wants x u;bar df when closed<1;"));
+        due(y.errands(0), NONE);
+        due(town(fullTown("thing t in pg;thing u in pe;wants x t;wants x u;bar df when closed>0;")).errands(0), 28);
+    }
+
+    /** A bar that holds while all ten are shut, and one that holds from then on. */
+    private static void fullBars() {
+        StringBuilder text = new StringBuilder("place a;place b;place c;door d a b 1;door e b c 1;");
+        for (char c = 'f'; c < 'n'; c++) {
+            text.append("box ").append(c).append(" at a;lost ").append(c).append(';');
+        }
+        text.append("key y in a;key z in a;person p at a;has p y;has p z;");
+        StackKeys x = town(text + "shut d by y;shut e by z;bar d when closed=10;bar d when closed>9;bar d when closed<9;");
+        due(x.has(8), 10);
+        due(x.reach(0, 1), 2);
+        due(x.reach(0, 2), 4);
+        StackKeys y = town(text + "shut d by y;shut e by z;bar d when closed=9;");
+        due(y.reach(0, 1), NONE);
+        StackKeys z = town(text + "shut d by y;shut e by z;bar e when closed=8;");
+        due(z.reach(0, 2), NONE);
     }
 
     private static void lentKeys() {
@@ -1135,8 +1203,13 @@ public final class PromisesTest {
                 going();
                 bars();
             }, PromisesTest::opening, PromisesTest::shutting, PromisesTest::lending, PromisesTest::taking,
-            PromisesTest::laying, PromisesTest::snapping, PromisesTest::tellingActs, PromisesTest::reaching,
-            PromisesTest::openingAlone, PromisesTest::errands, PromisesTest::lentKeys, PromisesTest::lockedIn,
+            PromisesTest::laying, PromisesTest::snapping, PromisesTest::tellingActs, () -> {
+                reaching();
+                fullBars();
+            }, PromisesTest::openingAlone, () -> {
+                errands();
+                fullErrands();
+            }, PromisesTest::lentKeys, PromisesTest::lockedIn,
             PromisesTest::together, PromisesTest::needed, PromisesTest::crossing, PromisesTest::fewestKeys,
             PromisesTest::ordering, PromisesTest::trying, PromisesTest::fitting, PromisesTest::wouldOpen,
             PromisesTest::unsaying, PromisesTest::rounds, PromisesTest::images, PromisesTest::octets,
