@@ -1,9 +1,5 @@
 /** Each promise of the document by itself: ordinary calls, the edges that it names, wrong inputs. */
-public final class PromisesTest {
-    private static final int NONE = StackKeys.NONE;
-    private static final int LOW = Integer.MIN_VALUE;
-    private static final int HIGH = Integer.MAX_VALUE;
-
+public final class PromisesTest extends Bench {
     /** Places inn 0, lane 1, mill 2, yard 3; doors oak 0, ash 1, boxes tin 2, urn 3, door fir 4; keys kay 0, lob 1, moe 2. */
     private static final String BASE = "place inn;place lane;place mill;place yard;"
             + "door oak inn lane 4;door ash lane mill 9;box tin at inn;box urn at mill;door fir mill yard 7;"
@@ -12,49 +8,6 @@ public final class PromisesTest {
             + "wants pat hat;wants quin hat;wants quin cup;must oak 10 90;must ash 30 60;must fir 50 99;"
             + "bar fir when who=0 and closed>2;";
     private static final int BASE_STATEMENTS = 27;
-
-    private static int wrong;
-    private static int asked;
-    private static int promise;
-
-    private static void due(long got, long want) {
-        asked++;
-        if (got != want) {
-            wrong++;
-            StackTraceElement at = new Throwable().getStackTrace()[1];
-            if (at.getMethodName().equals("due")) {
-                at = new Throwable().getStackTrace()[2];
-            }
-            System.out.println("promise " + promise + ", line " + at.getLineNumber() + ": answered " + got + ", due is " + want);
-        }
-    }
-
-    private static void due(boolean got, boolean want) {
-        due(got ? 1 : 0, want ? 1 : 0);
-    }
-
-    private static void feed(StackKeys x, int... bytes) {
-        int[] padded = java.util.Arrays.copyOf(bytes, (bytes.length + 19) / 20 * 20);
-        int before = 0;
-        for (int i = 0; i < padded.length; i += 20) {
-            int[] n = new int[5];
-            for (int j = 0; j < 20; j++) {
-                n[j / 4] = n[j / 4] << 8 | padded[i + j];
-            }
-            before = x.feed(n[0], n[1], n[2], n[3], n[4]);
-        }
-        x.end(before - padded.length + bytes.length);
-    }
-
-    private static void feed(StackKeys x, String text) {
-        feed(x, text.chars().toArray());
-    }
-
-    private static int tell(StackKeys x, String text) {
-        x.end(0);
-        feed(x, text);
-        return x.town();
-    }
 
     private static StackKeys base() {
         StackKeys x = new StackKeys();
@@ -70,27 +23,6 @@ public final class PromisesTest {
             System.out.println("fault " + x.fault(0) + " at " + (x.fault(1) - BASE.length()) + " in " + more);
         }
         return x;
-    }
-
-    private static StackKeys town(String text) {
-        StackKeys x = new StackKeys();
-        if (tell(x, text) == NONE) {
-            due(NONE, 0);
-            System.out.println("fault " + x.fault(0) + " at " + x.fault(1) + " in " + text);
-        }
-        return x;
-    }
-
-    /** The text's fault must be this, at the place of the mark ^, which is taken out. */
-    private static void faulty(String marked, int fault) {
-        int place = marked.indexOf('^');
-        StackKeys x = new StackKeys();
-        due(tell(x, marked.substring(0, place) + marked.substring(place + 1)), NONE);
-        due(x.fault(0), fault);
-        due(x.fault(1), place);
-        if (x.fault(0) != fault || x.fault(1) != place) {
-            System.out.println("  in " + marked);
-        }
     }
 
     private static void faultyBase(String marked, int fault) {
@@ -624,12 +556,6 @@ public final class PromisesTest {
         due(x.in(0, 0), 1);
     }
 
-    private static int told(StackKeys x, int... bytes) {
-        x.end(0);
-        feed(x, bytes);
-        return x.row();
-    }
-
     private static void tellingActs() {
         StackKeys x = base();
         due(told(x), NONE);
@@ -1066,14 +992,6 @@ public final class PromisesTest {
         due(z.round(0, 7), 12);
     }
 
-    private static int sum(int... bytes) {
-        int c = 19;
-        for (int b : bytes) {
-            c = (3 * c + b) % 233;
-        }
-        return c;
-    }
-
     private static void images() {
         StackKeys x = base();
         int[] want = {0, 2, 0, 2, 1, 0, 22, 1, 3, 23, 0};
@@ -1107,14 +1025,6 @@ public final class PromisesTest {
         due(x.octet(3), 2);
         due(x.image(), 1);
         due(x.octet(1), NONE);
-    }
-
-    private static boolean put(StackKeys x, int... bytes) {
-        int[] all = java.util.Arrays.copyOf(bytes, bytes.length + 1);
-        all[bytes.length] = sum(bytes);
-        x.end(0);
-        feed(x, all);
-        return x.on();
     }
 
     private static void puttingOn() {
@@ -1222,9 +1132,6 @@ public final class PromisesTest {
 
     public static void main(String[] args) {
         all();
-        System.out.println(promise + " promises, " + asked + " answers, " + wrong + " not as due");
-        if (wrong > 0) {
-            System.exit(1);
-        }
+        finish(promise + " promises");
     }
 }
