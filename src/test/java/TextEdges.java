@@ -134,7 +134,7 @@ final class TextEdges extends Edges {
         faulty(ahead + " 5;^placec;", 1);
         faulty("place^7;", 1);
         faulty("place a^7;", 1);
-        good(ahead + " 5;bar d when[who=1]or[1=who]and not[all]or(1)=1and 1=1;".replace("1and", "1 and"), 4);
+        good(ahead + " 5;bar d when[who=1]or[1=who]and not[all]or(1)=1 and 1=1;", 4);
     }
 
     private static void statements() {
@@ -143,7 +143,7 @@ final class TextEdges extends Edges {
         good("place a;place b;", 2);
         faulty("^;", 1);
         faulty("place a;^;", 1);
-        faulty("place a;;".replace(";;", ";^;place b;"), 1);
+        faulty("place a;^;place b;", 1);
         faulty("place a^", 1);
         faulty("place a;place b^", 1);
         faulty("place a ^place b;", 1);
@@ -376,7 +376,7 @@ final class TextEdges extends Edges {
         faulty("place a;box b at a;must b ^1440 7;", 4);
         faulty("place a;box b at a;must ^c 1440 7;", 3);
         faulty("place a;place ^a7;", 2);
-        faulty("place a;place b7".replace("7", "^7") + ";", 1);
+        faulty("place a;place b^7;", 1);
         faulty("place ^at7;", 1);
         faulty("place a;box b at ^c7;", 3);
         faulty("place a;place b;door d a b ^0x;", 4);
