@@ -20,6 +20,9 @@ public final class LanguageTest {
         "\\bassert\\b", "->", "::", "\\bimport\\b", "\\bpackage\\b", "\\bprotected\\b", "\\bwhile \\(true\\)", "\\bnull\\b",
         "\\bString\\[\\]", "\\bObject\\b", "Exact\\(", "System\\.", "\" *\\+", "\\+ *\"", "static \\{"};
 
+    private static final List<String> LIBRARY = List.of("Math.max", "Math.min", "Math.floorDiv", "Math.floorMod",
+        "Integer.bitCount");
+
     private static int wrong;
 
     private static void rule(boolean kept, String what) {
@@ -38,6 +41,28 @@ public final class LanguageTest {
         }
         rule(source.chars().allMatch(c -> c < 128), "signs below 128 alone");
         methodLengths(source.split("\n"));
+        library(code);
+        made(code);
+    }
+
+    /** Rule 4: of the library's functions only a few are used, all of which the rule lists. */
+    private static void library(String code) {
+        Matcher m = Pattern.compile("\\b(Math|Integer|Long|Arrays|List|Character|String)\\.(\\w+)").matcher(code);
+        while (m.find()) {
+            rule(LIBRARY.contains(m.group()), "the library's " + m.group());
+        }
+    }
+
+    /** Rule 12: rows are made with their object, as fields, so that no call takes any of the room. */
+    private static void made(String code) {
+        String fieldIndent = "    ";
+        for (String line : code.split("\n")) {
+            if (line.startsWith("    private static final class ")) {
+                fieldIndent = "        ";
+            }
+            boolean field = line.matches(fieldIndent + "(private )?(final )?[\\w\\[\\]]+ \\w+ = new .*;");
+            rule(!line.contains(" new ") || field || line.strip().equals("lexer = new Lexer(tape);"), "made:" + line);
+        }
     }
 
     private static void methodLengths(String[] lines) {
